@@ -165,6 +165,7 @@ public final class ChanceTest {
         Check.due("share: turns of two", x, x.share(0b110011, 0b001100, 6, 2), 6, 0, 0);
         Check.due("share: turns of two, the other way", x, x.share(0b001100, 0b110011, 6, 2), 0, 2, 4);
         Check.due("share: hour 24 is hour 0", x, x.share(1, 2, 48, 24), 2, 1, 1);
+        Check.due("share: hour 24 alone", x, x.share(1, 0, 25, 48), 2, 0, 0);
         Check.due("share: turns of 48", x, x.share(1, 2, 48, 48), 2, 0, 2);
         Check.due("share: one hour", x, x.share(1, 1, 1, 1), 1, 0, 1);
         Check.due("share: bit 23", x, x.share(1 << 23, 0, 24, 48), 1, 0, 0);
@@ -183,6 +184,9 @@ public final class ChanceTest {
         Check.due("turn: 2", x, x.turn(0b110011, 0b001100, 6), 2, 6);
         Check.due("turn: equal ones", x, x.turn(0, 0, 48), 1, 0);
         Check.due("turn: 24", x, x.turn(0xFFFFFF, 0, 24), 24, 24);
+        Check.due("turn: never 25", x, x.turn(0xFFFFFF, 0, 25), 24, 24);
+        Check.due("turn: one hour", x, x.turn(1, 0, 1), 1, 1);
+        Check.due("turn: 48 hours", x, x.turn(0xFFFFFF, 0xFFFFFF, 48), 1, 48);
         Check.due("turn: the least that is enough", x, x.turn(0xFFFFFF, 0, 5), 5, 5);
         Check.refused("turn: n 0", x, () -> x.turn(1, 2, 0), NONE);
         Check.refused("turn: n 49", x, () -> x.turn(1, 2, 49), NONE);

@@ -121,6 +121,7 @@ public final class HoursTest {
         Check.due("hours: 0", x, x.hours(0), 0, 0, 0);
         Check.due("hours: 1", x, x.hours(1), 1, 0, 0);
         Check.due("hours: yet", x.bridge(0, 3) * 10 + x.bridge(1, 3), 31);
+        Check.due("hours: an hour yet, so it is towed", x.count(6), 3);
         Check.due("hours: one comes", x, x.hours(1), 2, 2, 0);
         x.tow(2, 2);
         Check.due("hours: two come", x, x.hours(99), 101, 5, 0);
@@ -164,8 +165,11 @@ public final class HoursTest {
         Check.due("day: broken", x.count(8), 1);
         Check.due("day: to the shed, hours of two digits", x, Check.day(x, "t0-;h09"), 2, 0, 0);
         Check.due("day: in the shed", x.count(5), 7);
+        Check.due("day: to the first bank and back", x, Check.day(x, "t10;h2;ca0;ca0;h1"), 5, 0, 0);
+        Check.due("day: at the first bank", x.person(0, 0), 0);
+        Check.due("day: home again", x, Check.day(x, "t1-;h4"), 2, 0, 0);
         Check.due("day: lent anew", x, Check.day(x, "l1999;l11"), 2, 0, 0);
-        Check.due("day: lent from now", x.bridge(1, 4), 23);
+        Check.due("day: lent from now", x.bridge(1, 4), x.count(4) + 1);
         Check.due("day: 60 signs", x, Check.day(x, Check.times("l1123;", 8) + "h01;h2;h01;h"), -61, 0, 0);
         Check.due("day: the 60th sign", x, Check.day(x, Check.times("l1123;", 8) + "h01;h02;h003"), -60, 0, 0);
         Check.due("day: 60 signs all done", x, Check.day(x, Check.times("l1123;", 9) + "h01;h0"), 11, 0, 0);

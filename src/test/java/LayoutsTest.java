@@ -35,6 +35,12 @@ public final class LayoutsTest {
         Check.due("lays: not both", y, y.lays(3), 0);
         Check.due("lays: one and the least", y, y.lays(6), 1, 0, 1);
         Check.due("lays: of three", y, y.lays(7), 0);
+        Check.river(x, "2;ab1:1;ab1:2");
+        Check.bridges(x, "29;19");
+        Check.due("lays: a river anew", x, x.lays(3), 1, 1, 0);
+        Check.river(x, "2;ab1:2;ab1:2");
+        Check.bridges(x, "19;19");
+        Check.due("lays: a river anew, all too short", x, x.lays(3), 0);
         BridgesAreLent z = Check.object("2" + Check.times(";ab1:1", 10), "15;15;15;15;15;15", "");
         Check.due("lays: six", z, z.lays(63 << 4), 1, 0, 1, 2, 3, 4, 5);
         Check.due("lays: seven", z, z.lays(127), 0);

@@ -74,6 +74,8 @@ public final class TextsTest {
         Check.due("river: crossings", x.count(1), 4);
         Check.due("river: none", Check.river(x, "2"), 0);
         Check.due("river: none: banks", x.count(0), 2);
+        Check.due("river: none once more", Check.river(x, "3"), 0);
+        Check.due("river: none once more: crossings", x.count(1), 0);
         Check.due("river: places of two digits", Check.river(x, "8" + Check.times(";gh99:9", 10)), 10);
         Check.due("river: last", x.crossing(9, 0) * 1000 + x.crossing(9, 1) * 100 + x.crossing(9, 2), 6799);
         Check.due("river: 05", Check.river(x, "8;ha05:1"), 1);
@@ -114,6 +116,8 @@ public final class TextsTest {
         x.hours(1);
         x.keep(0);
         x.found(0, 5, 1);
+        x.tow(2, 2);
+        x.lend(2, 99);
         Check.rule(x, "7");
         Check.due("river anew", Check.river(x, "2;ab1:1"), 1);
         Check.due("river anew: bridges", x.count(2), 0);
@@ -127,6 +131,7 @@ public final class TextsTest {
         Check.due("river anew: what was found stays", x.count(9), 1);
         Check.due("river anew: the rule stays", x.takes(0, 0), 7);
         Check.due("river anew: bridges are in the shed", x.count(5), 7);
+        Check.due("river anew: none is lent", x.count(7), 0);
     }
 
     private static void linesAt(BridgesAreLent x, boolean bridges, String text, int place) {
