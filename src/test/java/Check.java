@@ -9,6 +9,7 @@ final class Check {
 
     private static int asked;
     private static int wrong;
+    private static String about = "";
 
     private Check() {
     }
@@ -17,11 +18,20 @@ final class Check {
         long answer();
     }
 
+    /** What the answers that follow are about, told ahead of each that is not as due. */
+    static void about(String words) {
+        about = words + ": ";
+    }
+
+    static void fail(String what) {
+        wrong++;
+        System.out.println(about + what);
+    }
+
     static void due(String what, long got, long want) {
         asked++;
         if (got != want) {
-            wrong++;
-            System.out.println(what + " answered " + got + ", due is " + want);
+            fail(what + " answered " + got + ", due is " + want);
         }
     }
 
@@ -32,8 +42,7 @@ final class Check {
     static void due(String what, String got, String want) {
         asked++;
         if (!got.equals(want)) {
-            wrong++;
-            System.out.println(what + ":\n  got    " + got + "\n  due is " + want);
+            fail(what + ":\n  got    " + got + "\n  due is " + want);
         }
     }
 
@@ -56,8 +65,7 @@ final class Check {
         asked++;
         try {
             long got = call.answer();
-            wrong++;
-            System.out.println(what + " answered " + got + ", due is NoSuchElementException");
+            fail(what + " answered " + got + ", due is NoSuchElementException");
         } catch (NoSuchElementException e) {
             return;
         }
