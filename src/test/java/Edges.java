@@ -3,6 +3,8 @@ final class Edges {
     static final int NONE = BridgesAreLent.NONE;
     static final int LOWEST = Integer.MIN_VALUE;
     static final int GREATEST = Integer.MAX_VALUE;
+    static final String DIGITS = "0123456789";
+    static final String FROM_1 = "123456789";
 
     private Edges() {
     }
@@ -13,6 +15,10 @@ final class Edges {
 
     interface Reading {
         int answer(BridgesAreLent x);
+    }
+
+    interface Making {
+        BridgesAreLent object();
     }
 
     interface Calling {
@@ -48,6 +54,15 @@ final class Edges {
         Check.write(x, text);
         Check.refused("\"" + text + "\"", x, () -> call.answer(x), -1 - place);
         Check.due("\"" + text + "\": THE TEXT is empty", x.count(12), 0);
+    }
+
+    /** Behind these signs some can stand, and each other one of all 256 can't. */
+    static void signs(Making make, Reading call, String ahead, String some) {
+        for (char next = 0; next < 256; next++) {
+            BridgesAreLent x = Check.write(make.object(), ahead + next);
+            boolean refused = call.answer(x) == -1 - ahead.length();
+            Check.due("behind \"" + ahead + "\" sign " + (int) next + " is refused", refused, some.indexOf(next) < 0);
+        }
     }
 
     /** A text that is taken: what is answered; THE TEXT is empty then. */

@@ -56,6 +56,7 @@ final class EdgesOfChance {
             }
         }
         Check.due("from 1 it goes to 2", x, x.drift(1, 10, 1, 2), 0, 1, 1);
+        x.drift(0, 0, 12, 4);
         Check.due("never up the river", x, x.drift(1, 5, 12, 4), 0, 0, 1);
         BridgesAreLent y = Check.laid("2" + Check.times(";ab7:1", 10), "19", "", 3);
         Check.due("ten of like place", y, y.drift(0, 10, 6, 9), 0, 1, 1);
@@ -125,6 +126,10 @@ final class EdgesOfChance {
         Check.due("likelier to go", x.seek(0, 6, 1), 1);
         Check.due("equal in the middle", x.seek(0, 5, 3), 1);
         Check.due("never", x.seek(0, 0, 12), 4);
+        BridgesAreLent y = Check.laid(TEN, "19", "", 0);
+        Check.due("of ten, the last", y.seek(0, 10, 9), 9);
+        Check.due("of ten, the last but one", y.seek(0, 10, 8), 8);
+        Check.due("of ten, the middle", y.seek(0, 5, 12), 6);
     }
 
     private static void seekRow() {

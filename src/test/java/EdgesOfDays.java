@@ -119,6 +119,8 @@ final class EdgesOfDays {
         for (int p = 0; p < 6; p++) {
             Check.due("person " + p, x.person(p, 0), 1);
         }
+        done(x, "ca0;cb0", 2, 0, 0);
+        Check.due("back at bank 0", x.person(0, 0) + x.person(1, 0), 0);
         done(x, "ca1", 0, 1, 0);
         done(x, "ca9", 0, 1, 0);
         done(usual(), "cc0", 0, 1, 0);
@@ -198,6 +200,13 @@ final class EdgesOfDays {
         at(day + ".", day.length());
         at("T00", 0);
         at("0", 0);
+        String[][] some = {{"", "tlch"}, {"t", Edges.DIGITS}, {"t0", Edges.DIGITS + "-"}, {"t0-", ";"}, {"t00", ";"},
+            {"l", Edges.DIGITS}, {"l0", Edges.DIGITS}, {"l01", Edges.DIGITS + ";"}, {"l012", Edges.DIGITS + ";"}, {"l0123", ";"},
+            {"c", "abcdef"}, {"ca", Edges.DIGITS}, {"ca0", ";"}, {"h", Edges.DIGITS}, {"h1", Edges.DIGITS + ";"}, {"h12", ";"},
+            {"h1;", "tlch"}, {Check.times("h1;", 19) + "h12", ""}};
+        for (String[] s : some) {
+            Edges.signs(EdgesOfDays::usual, BridgesAreLent::day, s[0], s[1]);
+        }
     }
 
     private static void dayEndsTooEarly() {
@@ -265,6 +274,11 @@ final class EdgesOfDays {
             Check.due("left", x.undo(), left);
             Check.due("as ahead of it", Check.things(x), seen[left]);
         }
+        x.cross(0, 0);
+        x.sheet(2, 1, 5, 0);
+        Check.due("to bank 0", x.cross(0, 0), 0);
+        Check.due("that is undone, too", x.undo(), 1);
+        Check.due("back at bank 1", x.person(0, 0), 1);
     }
 
     private static void fifteen() {

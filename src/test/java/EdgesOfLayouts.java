@@ -50,6 +50,10 @@ final class EdgesOfLayouts {
         Check.due("no bridges", z.lays(1), 0);
         Check.due("no bridges, no crossings", z.lays(0), 1);
         Check.due("a new object", new BridgesAreLent().lays(0), 1);
+        Check.river(x, "2;ab1:9;ab2:1");
+        Check.bridges(x, "89;11");
+        Check.due("of a river anew, too wide", x.lays(1), 0);
+        Check.due("of a river anew", x, x.lays(2), 1, 0);
     }
 
     private static void laysRow() {
@@ -92,6 +96,8 @@ final class EdgesOfLayouts {
         }
         Check.due("no banks", x, x.joins(0), 0, 0);
         BridgesAreLent y = Check.object("4;ab1:1;bc1:1;cd1:1;ad1:9", "19;19;19", "");
+        Check.errands(y, "ab,bc,cd");
+        Check.due("errands told ahead of it do not count", y, y.joins(3), 1, 1);
         Check.due("the wide one can't", y, y.joins(9), 3, 7);
         Check.bridges(y, "90");
         Check.due("the wide one can", y, y.joins(9), 1, 8);
@@ -234,6 +240,11 @@ final class EdgesOfLayouts {
         }
         at(text + ".", text.length());
         at(text + "b", text.length());
+        String[][] some = {{"", "abcd"}, {"a", "bcd"}, {"c", "abd"}, {"ab", ","}, {"ab,", "abcd"}, {"ab,d", "abc"},
+            {Check.times("ab,", 7) + "ab", ","}, {Check.times("ab,", 8), ""}};
+        for (String[] s : some) {
+            Edges.signs(EdgesOfLayouts::ring, BridgesAreLent::errands, s[0], s[1]);
+        }
     }
 
     private static void errandsEndTooEarly() {
@@ -303,6 +314,13 @@ final class EdgesOfLayouts {
         Check.due("two", x, x.flood(2), 3, 1);
         Check.due("three", x, x.flood(3), 7, 0);
         Check.due("nine", x, x.flood(9), 7, 0);
+        x.sheet(2, 0, 0, 0);
+        Check.due("sound 0 counts too", x, x.flood(0), 0, 6);
+        Check.rule(x, "1");
+        x.tow(0, NONE);
+        x.hours(1);
+        x.tow(0, 0);
+        Check.due("one that is towed there, an hour yet, does not", x, x.flood(0), 0, 3);
     }
 
     private static void floodNone() {
@@ -335,6 +353,13 @@ final class EdgesOfLayouts {
         Check.due("8", x, x.highest(), 8, 0);
         x.tow(2, NONE);
         Check.due("9", x, x.highest(), 9, NONE);
+        BridgesAreLent y = Check.laid("3;ab1:1;bc1:1", "50;30", "", 0);
+        Check.due("sound 0 counts too", y, y.highest(), 4, 0);
+        Check.rule(y, "1");
+        y.tow(1, 1);
+        Check.due("one that is towed there, an hour yet, does not", y, y.highest(), 4, 0);
+        y.hours(1);
+        Check.due("it came", y, y.highest(), 2, 1);
     }
 
     private static void worstLeft() {
@@ -345,6 +370,12 @@ final class EdgesOfLayouts {
             Check.due("of seven banks in a line, " + n, x.worst(n), left[n]);
         }
         Check.due("nothing is lost by it", x.count(13), 21);
+        BridgesAreLent y = Check.laid("3;ab1:1;bc1:1", "10;10", "", 0);
+        Check.due("sound 0 counts too", y, y.worst(0), 1, 0);
+        Check.rule(y, "1");
+        y.tow(1, 1);
+        Check.due("one that is towed there, an hour yet, does not", y, y.worst(0), 1, 0);
+        Check.due("nor is it lost", y, y.worst(3), 0, 1);
     }
 
     private static void worstFewer() {

@@ -201,7 +201,9 @@ final class EdgesOfLoans {
         x.tow(1, 1);
         x.lend(1, 999999);
         Check.due("towed to a crossing, however long it is lent", x, x.home(), 2, 1);
-        x.hours(x.bridge(1, 3));
+        x.hours(x.bridge(1, 3) - 1);
+        Check.due("an hour yet", x, x.home(), 2, 2);
+        x.hours(1);
         Check.due("it came there", x, x.home(), 0, 7);
         x.tow(0, NONE);
         int there = x.count(4) + x.bridge(0, 3);

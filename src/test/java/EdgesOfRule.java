@@ -226,14 +226,14 @@ final class EdgesOfRule {
         Check.due("sound 9", x.takes(1, NONE), 10);
         x.sheet(2, 1, 4, 0);
         Check.due("sound as it is now", x.takes(0, NONE), 5);
-        Check.rule(x, "w+1");
-        Check.due("the shed", x.takes(1, NONE), 1);
+        Check.rule(x, "w+5");
+        Check.due("the shed", x.takes(1, NONE), 5);
         x.tow(1, NONE);
-        x.hours(1);
-        Check.due("where it goes, not where it was", x.takes(0, 1), 10);
+        x.hours(5);
+        Check.due("where it goes, not where it was", x.takes(0, 1), 14);
         x.tow(0, 1);
-        x.hours(10);
-        Check.due("the least width", x.takes(0, 0), 2);
+        x.hours(14);
+        Check.due("the least width", x.takes(0, 0), 6);
     }
 
     private static void numberAndNow() {

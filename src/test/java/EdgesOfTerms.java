@@ -400,6 +400,11 @@ final class EdgesOfTerms {
         }
         x.hours(1);
         Check.due("parts of 2, 2, 4 banks", x.count(13), 8);
+        Check.due("parts that lie between one another", Check.laid("4;ac1:1;bd1:1", "19;19", "", 0, 1).count(13), 2);
+        Check.due("by a bridge of sound 0", Check.laid("2;ab1:1", "10", "", 0).count(13), 1);
+        BridgesAreLent z = Check.object("2;ab0:1", "19", "");
+        z.tow(0, 0);
+        Check.due("towed there, an hour yet", z.count(13), 0);
         Check.due("no banks", empty().count(13), 0);
         Check.due("no bridges", Check.object("8;ab1:1", "", "").count(13), 0);
         BridgesAreLent y = Check.laid("7;ab1:1;bc1:1;cd1:1;de1:1;ef1:1;fg1:1", "19;19;19;19;19;19", "", 0, 1, 2, 3, 4, 5);

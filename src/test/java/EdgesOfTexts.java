@@ -194,6 +194,11 @@ final class EdgesOfTexts {
             }
         }
         Edges.at(x, BridgesAreLent::river, river + ".", river.length());
+        String[][] some = {{"", "2345678"}, {"3", ";"}, {"3;", "abc"}, {"3;a", "bc"}, {"3;b", "ac"}, {"3;ab", Edges.DIGITS},
+            {"3;ab1", Edges.DIGITS + ":"}, {"3;ab12", ":"}, {"3;ab12:", Edges.FROM_1}, {"3;ab12:3", ";"}, {TEN, ""}};
+        for (String[] s : some) {
+            Edges.signs(BridgesAreLent::new, BridgesAreLent::river, s[0], s[1]);
+        }
     }
 
     private static void riverEndsTooEarly() {
@@ -272,6 +277,10 @@ final class EdgesOfTexts {
         Edges.at(withBridges(1), BridgesAreLent::bridges, "123", 2);
         Edges.at(withBridges(1), BridgesAreLent::bridges, "02", 0);
         Edges.at(withBridges(1), BridgesAreLent::bridges, "12;02", 3);
+        String[][] some = {{"", Edges.FROM_1}, {"1", Edges.DIGITS}, {"12", ";"}, {"12;", Edges.FROM_1}};
+        for (String[] s : some) {
+            Edges.signs(() -> withBridges(1), BridgesAreLent::bridges, s[0], s[1]);
+        }
     }
 
     private static void bridgesEndTooEarly() {
@@ -303,6 +312,8 @@ final class EdgesOfTexts {
         }
         Edges.at(withBridges(5), BridgesAreLent::bridges, "77;", 3);
         Edges.at(withBridges(5), BridgesAreLent::bridges, "7;77", 1);
+        Edges.signs(() -> withBridges(5), BridgesAreLent::bridges, "77;", "");
+        Edges.signs(() -> withBridges(6), BridgesAreLent::bridges, "", "");
     }
 
     private static void bridgesTooLong() {
@@ -312,6 +323,7 @@ final class EdgesOfTexts {
         Edges.at(withBridges(0), BridgesAreLent::bridges, SIX_BRIDGES + ";11", 17);
         Edges.at(withBridges(0), BridgesAreLent::bridges, SIX_BRIDGES + "x", 17);
         Edges.at(withBridges(0), BridgesAreLent::bridges, SIX_BRIDGES + Check.times("1", 63), 17);
+        Edges.signs(() -> withBridges(0), BridgesAreLent::bridges, SIX_BRIDGES, "");
         Edges.at(withBridges(0), BridgesAreLent::bridges, "11;12;13;14;15;1x;", 16);
         Edges.at(withBridges(1), BridgesAreLent::bridges, SIX_BRIDGES + ";", 15);
     }
@@ -358,6 +370,12 @@ final class EdgesOfTexts {
             int room = 6 - there;
             Edges.at(withPeople(there), BridgesAreLent::people, Check.times("a7;", room) + "a7", 3 * room);
             Edges.at(withPeople(there), BridgesAreLent::people, Check.times("a7;", room) + "x", 3 * room);
+        }
+        Edges.at(withPeople(5), BridgesAreLent::people, "a7;", 3);
+        Edges.signs(() -> withPeople(6), BridgesAreLent::people, "", "");
+        String[][] some = {{"", "ab"}, {"a", Edges.FROM_1}, {"a1", ";"}, {"a1;", "ab"}};
+        for (String[] s : some) {
+            Edges.signs(() -> withPeople(1), BridgesAreLent::people, s[0], s[1]);
         }
         Edges.at(withPeople(1), BridgesAreLent::people, "a0", 1);
         Edges.at(withPeople(1), BridgesAreLent::people, "a12", 2);
@@ -414,6 +432,16 @@ final class EdgesOfTexts {
         }
         Edges.at(ruled(), BridgesAreLent::rule, rule + ".", rule.length());
         Edges.at(ruled(), BridgesAreLent::rule, rule + "<1", rule.length());
+        String first = Edges.DIGITS + "-(dulswbn";
+        String more = "+-*/<>=";
+        String[][] some = {{"", first}, {"1", Edges.DIGITS + more}, {"12", Edges.DIGITS + more}, {"123", more}, {"d", more},
+            {"-", first}, {"--", first}, {"1+", first}, {"1-", first}, {"1*", first}, {"1/", first}, {"1<", first}, {"1=", first},
+            {"d<u", "+-*/"}, {"d<u+l", "+-*/"}, {"(", first}, {"(d", more + ")"}, {"(d<u", "+-*/)"}, {"(d)", more},
+            {"((((", Edges.DIGITS + "-dulswbn"}, {"((((d", more + ")"}, {"((((d)", more + ")"}, {"d<(u", more + ")"}, {"d<(u)", "+-*/"},
+            {Check.times("1+", 19) + "d", more}, {Check.times("1+", 20), ""}};
+        for (String[] s : some) {
+            Edges.signs(EdgesOfTexts::ruled, BridgesAreLent::rule, s[0], s[1]);
+        }
         BridgesAreLent x = ruled();
         Check.rule(x, "5+5+");
         Check.due("the rule ahead of it stays", x.takes(0, 1), 77);

@@ -75,6 +75,8 @@ final class EdgesOfWays {
         Check.due("of like ones the least that is open", y, y.route(0, 1), 1, 5);
         BridgesAreLent z = Check.laid("4;ab1:1;ac1:1;cd1:1;bd1:1", "19;19;19;19", "a1", 0, 1, 2, 3);
         Check.due("0 3, not 1 2", z, z.route(0, 3), 2, 0, 3);
+        BridgesAreLent w = Check.laid("4;ab1:1;ac1:1;cd1:1;bc1:1", "19;19;19;19", "a1", 0, 1, 2, 3);
+        Check.due("not by a bank that is no nearer", w, w.route(0, 3), 2, 1, 2);
     }
 
     private static void routeCant() {
@@ -278,6 +280,9 @@ final class EdgesOfWays {
         BridgesAreLent x = Check.object("4;ab1:1;bc1:1;cd1:1", "15;15;15", "a5");
         Check.refused("by three", x, () -> x.moves(0, 3), -2);
         Check.due("by two", x, x.moves(0, 2), 2, 0, 0, 1, 1);
+        BridgesAreLent w = Check.object("3" + Check.times(";ab1:1", 10), Check.times("15;", 5) + "15", "a5;a6");
+        Check.refused("ten crossings and six bridges, none there", w, () -> w.moves(0, 2), -2);
+        Check.refused("ten crossings and six bridges, too heavy", w, () -> w.moves(1, 1), -2);
         BridgesAreLent y = Check.object("3;ab1:1", "", "a5");
         Check.refused("no bridges", y, () -> y.moves(0, 1), -2);
         BridgesAreLent z = Check.object("3;ab1:1", "19;19", "a5");
@@ -300,6 +305,9 @@ final class EdgesOfWays {
         Check.due("one in the shed soon is not", x, x.needed(), 4, 5, 9);
         BridgesAreLent y = Check.laid(RING, "10;10;10;10", "", 0, 1, 2);
         Check.due("sound 0 counts too", y, y.needed(), 1, 2, 6);
+        Check.rule(y, "1");
+        y.tow(3, 3);
+        Check.due("one that is towed there, an hour yet, does not", y, y.needed(), 1, 2, 6);
     }
 
     private static void neededFirst() {
