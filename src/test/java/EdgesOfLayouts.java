@@ -50,10 +50,18 @@ final class EdgesOfLayouts {
         Check.due("no bridges", z.lays(1), 0);
         Check.due("no bridges, no crossings", z.lays(0), 1);
         Check.due("a new object", new BridgesAreLent().lays(0), 1);
-        Check.river(x, "2;ab1:9;ab2:1");
-        Check.bridges(x, "89;11");
-        Check.due("of a river anew, too wide", x.lays(1), 0);
-        Check.due("of a river anew", x, x.lays(2), 1, 0);
+        // of a river anew neither WIDTHS nor LENGTHS of the one ahead count
+        BridgesAreLent w = Check.object("2;ab1:9", "", "");
+        Check.due("wide, no bridges", w.lays(1), 0);
+        Check.river(w, "2;ab1:1");
+        Check.bridges(w, "19");
+        Check.due("narrow, a short one", w.lays(1), 1);
+        Check.river(w, "2;ab1:1");
+        Check.bridges(w, "99");
+        Check.due("narrow, a long one", w.lays(1), 1);
+        Check.river(w, "2;ab1:9");
+        Check.bridges(w, "89");
+        Check.due("wide, a short one", w.lays(1), 0);
     }
 
     private static void laysRow() {
