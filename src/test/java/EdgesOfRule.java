@@ -48,6 +48,7 @@ final class EdgesOfRule {
         Check.due("signs", forty.length(), 40);
         gives(forty, 40);
         gives(Check.times("1+", 19) + "1", 20);
+        gives("-l" + Check.times("+l", 19), 90);
         at(forty + "1", 40);
     }
 

@@ -419,6 +419,10 @@ final class EdgesOfTexts {
         Check.due("none: as at first", x.takes(0, 1), 4);
         Edges.takes(x, BridgesAreLent::rule, "", 0);
         Check.due("none still", x.takes(0, 1), 4);
+        for (String rule : new String[] {"-1", "-1", "9", "8+1", "9", "-(-9)", "9"}) {
+            Edges.takes(x, BridgesAreLent::rule, rule, 0);
+            Check.due("nothing of those ahead is left in " + rule, x.takes(0, 1), rule.equals("-1") ? 1 : 9);
+        }
         Edges.takes(new BridgesAreLent(), BridgesAreLent::rule, "d", 0);
     }
 
