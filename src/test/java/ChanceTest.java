@@ -45,26 +45,22 @@ public final class ChanceTest {
     }
 
     private static void driftRefused() {
-        BridgesAreLent x = Check.laid(DOWN, "53;99", "", 3);
-        Check.refused("drift: bridge 2", x, () -> x.drift(2, 5, 1, 0), NONE);
-        Check.refused("drift: bridge -1", x, () -> x.drift(-1, 5, 1, 0), NONE);
-        Check.refused("drift: p -1", x, () -> x.drift(0, -1, 1, 0), NONE);
-        Check.refused("drift: p 11", x, () -> x.drift(0, 11, 1, 0), NONE);
-        Check.refused("drift: n -1", x, () -> x.drift(0, 5, -1, 0), NONE);
-        Check.refused("drift: n 13", x, () -> x.drift(0, 5, 13, 0), NONE);
-        Check.refused("drift: crossing 4", x, () -> x.drift(0, 5, 1, 4), NONE);
-        Check.refused("drift: crossing -1", x, () -> x.drift(0, 5, 1, -1), NONE);
-        Check.refused("drift: in the shed", x, () -> x.drift(1, 5, 1, 0), -2);
-        Check.refused("seek: bridge 2", x, () -> x.seek(2, 5, 1), NONE);
-        Check.refused("seek: bridge -1", x, () -> x.seek(-1, 5, 1), NONE);
-        Check.refused("seek: p -1", x, () -> x.seek(0, -1, 1), NONE);
-        Check.refused("seek: p 11", x, () -> x.seek(0, 11, 1), NONE);
-        Check.refused("seek: n -1", x, () -> x.seek(0, 5, -1), NONE);
-        Check.refused("seek: n 13", x, () -> x.seek(0, 5, 13), NONE);
-        Check.refused("seek: in the shed", x, () -> x.seek(1, 5, 1), -2);
-        x.tow(0, 0);
-        Check.refused("drift: towed", x, () -> x.drift(0, 5, 1, 0), -2);
-        Check.refused("seek: towed", x, () -> x.seek(0, 5, 1), -2);
+        int[][] wrong = {{2, 5, 1, 0}, {-1, 5, 1, 0}, {0, -1, 1, 0}, {0, 11, 1, 0}, {0, 5, -1, 0}, {0, 5, 13, 0}, {0, 5, 1, 4},
+            {0, 5, 1, -1}};
+        for (int[] w : wrong) {
+            BridgesAreLent x = Check.laid(DOWN, "53;99", "", 3);
+            String what = w[0] + " " + w[1] + " " + w[2] + " " + w[3];
+            Check.refused("drift " + what, x, () -> x.drift(w[0], w[1], w[2], w[3]), NONE);
+            if (w[3] == 0) {
+                Check.refused("seek " + what, x, () -> x.seek(w[0], w[1], w[2]), NONE);
+            }
+        }
+        BridgesAreLent y = Check.laid(DOWN, "53;99", "", 3);
+        Check.refused("drift: in the shed", y, () -> y.drift(1, 5, 1, 0), -2);
+        Check.refused("seek: in the shed", y, () -> y.seek(1, 5, 1), -2);
+        y.tow(0, 0);
+        Check.refused("drift: towed", y, () -> y.drift(0, 5, 1, 0), -2);
+        Check.refused("seek: towed", y, () -> y.seek(0, 5, 1), -2);
     }
 
     private static void seek() {
@@ -83,7 +79,8 @@ public final class ChanceTest {
         int[][] wrong = {{-1, 0, 0}, {4, 0, 0}, {0, -1, 0}, {0, 19, 0}, {1, -1, 1}, {1, 19, 1}, {2, -1, 0}, {2, 7, 0},
             {3, -1, 0}, {3, 2, 0}, {0, 5, -1}, {0, 5, 2}};
         for (int[] f : wrong) {
-            Check.refused("found " + f[0] + " " + f[1] + " " + f[2], x, () -> x.found(f[0], f[1], f[2]), NONE);
+            BridgesAreLent y = Check.object(Check.RIVER, Check.BRIDGES, "");
+            Check.refused("found " + f[0] + " " + f[1] + " " + f[2], y, () -> y.found(f[0], f[1], f[2]), NONE);
         }
         int[][] right = {{0, 0, 0}, {0, 18, 1}, {1, 0, 1}, {1, 18, 0}, {2, 0, 0}, {2, 6, 1}, {3, 0, 1}, {3, 1, 0}};
         for (int i = 0; i < right.length; i++) {

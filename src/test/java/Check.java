@@ -73,9 +73,9 @@ final class Check {
 
     /** A call that answers so and changes nothing. */
     static void refused(String what, BridgesAreLent x, Call call, long want) {
-        String before = sight(x);
+        String before = glance(x);
         due(what, call.answer(), want);
-        due(what + " changes something", sight(x), before);
+        due(what + " changes something", glance(x), before);
     }
 
     static BridgesAreLent write(BridgesAreLent x, String text) {
@@ -142,6 +142,30 @@ final class Check {
         return part.repeat(n);
     }
 
+    /** What a call could change, told by few calls: an object is good for 512 of them. */
+    static String glance(BridgesAreLent x) {
+        StringBuilder all = new StringBuilder();
+        for (int what = 0; what <= 11; what++) {
+            all.append(what).append('=').append(x.count(what)).append(' ');
+        }
+        int row = x.count(11);
+        for (int i = 0; i < row; i++) {
+            all.append("| row ").append(x.row(i));
+        }
+        int bridges = x.count(2);
+        for (int b = 0; b < bridges; b++) {
+            all.append("| bridge");
+            for (int what = 1; what <= 4; what++) {
+                all.append(' ').append(x.bridge(b, what));
+            }
+        }
+        int people = x.count(3);
+        for (int p = 0; p < people; p++) {
+            all.append("| person ").append(x.person(p, 0));
+        }
+        return all.toString();
+    }
+
     /** All that can be seen of an object but THE TEXT. */
     static String sight(BridgesAreLent x) {
         StringBuilder all = new StringBuilder();
@@ -150,13 +174,15 @@ final class Check {
                 all.append(what).append('=').append(x.count(what)).append(' ');
             }
         }
-        for (int c = 0; c < x.count(1); c++) {
+        int crossings = x.count(1);
+        for (int c = 0; c < crossings; c++) {
             all.append("| crossing");
             for (int what = 0; what <= 5; what++) {
                 all.append(' ').append(x.crossing(c, what));
             }
         }
-        for (int i = 0; i < x.count(11); i++) {
+        int row = x.count(11);
+        for (int i = 0; i < row; i++) {
             all.append("| row ").append(x.row(i));
         }
         return all.append(things(x)).toString();
@@ -165,13 +191,15 @@ final class Check {
     /** Where BRIDGES and PEOPLE are, SOUND, LOANS, BROKEN ones, NOW. */
     static String things(BridgesAreLent x) {
         StringBuilder all = new StringBuilder();
-        for (int b = 0; b < x.count(2); b++) {
+        int bridges = x.count(2);
+        for (int b = 0; b < bridges; b++) {
             all.append("| bridge");
             for (int what = 0; what <= 4; what++) {
                 all.append(' ').append(x.bridge(b, what));
             }
         }
-        for (int p = 0; p < x.count(3); p++) {
+        int people = x.count(3);
+        for (int p = 0; p < people; p++) {
             all.append("| person ").append(x.person(p, 0)).append(' ').append(x.person(p, 1));
         }
         return all.append("| now ").append(x.count(4)).append(" broken ").append(x.count(8)).toString();

@@ -21,6 +21,10 @@ final class Edges {
         BridgesAreLent object();
     }
 
+    interface Ranging {
+        long answer(BridgesAreLent x, int v);
+    }
+
     interface Calling {
         long answer(BridgesAreLent x);
     }
@@ -32,12 +36,13 @@ final class Edges {
         }
     }
 
-    /** Numbers just outside, and those farthest outside, are answered so, and change nothing. */
-    static void outside(String what, BridgesAreLent x, int low, int high, Of call, long want) {
+    /** Numbers just outside, and those farthest outside, are answered so, and change nothing of a new object. */
+    static void outside(String what, Making make, int low, int high, Ranging call, long want) {
         int[] numbers = {low - 1, high + 1, LOWEST, GREATEST, LOWEST + 1, 256 + low, 65536 + low, -256 + low};
         for (int v : numbers) {
             if (v < low || v > high) {
-                Check.refused(what + " of " + v, x, () -> call.answer(v), want);
+                BridgesAreLent x = make.object();
+                Check.refused(what + " of " + v, x, () -> call.answer(x, v), want);
             }
         }
     }
@@ -63,6 +68,11 @@ final class Edges {
             boolean refused = call.answer(x) == -1 - ahead.length();
             Check.due("behind \"" + ahead + "\" sign " + (int) next + " is refused", refused, some.indexOf(next) < 0);
         }
+    }
+
+    /** The same of a new object. */
+    static void at(Making make, Reading call, String text, int place) {
+        at(make.object(), call, text, place);
     }
 
     /** A text that is taken: what is answered; THE TEXT is empty then. */

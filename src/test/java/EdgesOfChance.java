@@ -104,14 +104,15 @@ final class EdgesOfChance {
 
     private static void driftNone() {
         Doc.says(31, "NONE: others.");
-        BridgesAreLent x = Check.laid(DOWN, "99;19", "", 3);
-        Edges.outside("bridge", x, 0, 1, b -> x.drift(b, 5, 1, 0), NONE);
+        Edges.Making made = () -> Check.laid(DOWN, "99;19", "", 3);
+        BridgesAreLent x = made.object();
+        Edges.outside("bridge", made, 0, 1, (o, b) -> o.drift(b, 5, 1, 0), NONE);
         Edges.taken("p", 0, 10, p -> x.drift(0, p, 1, 0));
-        Edges.outside("p", x, 0, 10, p -> x.drift(0, p, 1, 0), NONE);
+        Edges.outside("p", made, 0, 10, (o, p) -> o.drift(0, p, 1, 0), NONE);
         Edges.taken("n", 0, 12, n -> x.drift(0, 5, n, 0));
-        Edges.outside("n", x, 0, 12, n -> x.drift(0, 5, n, 0), NONE);
+        Edges.outside("n", made, 0, 12, (o, n) -> o.drift(0, 5, n, 0), NONE);
         Edges.taken("crossing", 0, 4, c -> x.drift(0, 5, 1, c));
-        Edges.outside("crossing", x, 0, 4, c -> x.drift(0, 5, 1, c), NONE);
+        Edges.outside("crossing", made, 0, 4, (o, c) -> o.drift(0, 5, 1, c), NONE);
         Check.due("a new object", new BridgesAreLent().drift(0, 5, 1, 0), NONE);
     }
 
@@ -143,15 +144,16 @@ final class EdgesOfChance {
 
     private static void seekLikewise() {
         Doc.says(32, "-2, NONE: likewise.");
-        BridgesAreLent x = Check.laid(DOWN, "99;19;19", "", 3);
+        Edges.Making made = () -> Check.laid(DOWN, "99;19;19", "", 3);
+        BridgesAreLent x = made.object();
         x.tow(2, 2);
         Check.refused("in the shed", x, () -> x.seek(1, 5, 1), -2);
         Check.refused("towed", x, () -> x.seek(2, 5, 1), -2);
-        Edges.outside("bridge", x, 0, 2, b -> x.seek(b, 5, 1), NONE);
+        Edges.outside("bridge", made, 0, 2, (o, b) -> o.seek(b, 5, 1), NONE);
         Edges.taken("p", 0, 10, p -> x.seek(0, p, 1));
-        Edges.outside("p", x, 0, 10, p -> x.seek(0, p, 1), NONE);
+        Edges.outside("p", made, 0, 10, (o, p) -> o.seek(0, p, 1), NONE);
         Edges.taken("n", 0, 12, n -> x.seek(0, 5, n));
-        Edges.outside("n", x, 0, 12, n -> x.seek(0, 5, n), NONE);
+        Edges.outside("n", made, 0, 12, (o, n) -> o.seek(0, 5, n), NONE);
         Check.due("a new object", new BridgesAreLent().seek(0, 5, 1), NONE);
     }
 
@@ -215,15 +217,17 @@ final class EdgesOfChance {
         Doc.says(33, "Refused: others (v 0 .. 18; of 2 0 .. 6; of 3 0, 1), 12.");
         int[] greatest = {18, 18, 6, 1};
         for (int what = 0; what <= 3; what++) {
-            BridgesAreLent x = Check.object("2", "11;22", "");
+            Edges.Making made = () -> Check.object("2", "11;22", "");
+            BridgesAreLent x = made.object();
             int of = what;
             x.found(what, 0, 1);
             Check.due("what " + what + ", the greatest v", x.found(what, greatest[what], 0), 2);
-            Edges.outside("what " + what + ", v", x, 0, greatest[what], v -> x.found(of, v, 1), NONE);
-            Edges.outside("what " + what + ", is", x, 0, 1, is -> x.found(of, 0, is), NONE);
+            Edges.outside("what " + what + ", v", made, 0, greatest[what], (o, v) -> o.found(of, v, 1), NONE);
+            Edges.outside("what " + what + ", is", made, 0, 1, (o, is) -> o.found(of, 0, is), NONE);
         }
-        BridgesAreLent y = Check.object("2", "11;22", "");
-        Edges.outside("what", y, 0, 3, what -> y.found(what, 0, 1), NONE);
+        Edges.Making madeToo = () -> Check.object("2", "11;22", "");
+        BridgesAreLent y = madeToo.object();
+        Edges.outside("what", madeToo, 0, 3, (o, what) -> o.found(what, 0, 1), NONE);
         for (int n = 1; n <= 12; n++) {
             y.found(0, 0, 1);
         }

@@ -45,13 +45,15 @@ final class EdgesOfHours {
 
     private static void takesThere() {
         Doc.says(12, "-2: it is towed, or is there;");
-        BridgesAreLent x = usual();
-        Check.refused("in the shed, to the shed", x, () -> x.takes(0, NONE), -2);
-        x.tow(0, 1);
+        BridgesAreLent y = usual();
+        Check.refused("in the shed, to the shed", y, () -> y.takes(0, NONE), -2);
+        y.tow(0, 1);
         for (int c = NONE; c < 4; c++) {
             int to = c;
-            Check.refused("towed, to " + c, x, () -> x.takes(0, to), -2);
+            Check.refused("towed, to " + c, y, () -> y.takes(0, to), -2);
         }
+        BridgesAreLent x = usual();
+        x.tow(0, 1);
         x.tow(2, 2);
         Check.refused("towed, to where another is towed", x, () -> x.takes(0, 2), -2);
         Check.refused("towed, to one that is too wide", x, () -> x.takes(2, 3), -2);
@@ -99,12 +101,16 @@ final class EdgesOfHours {
 
     private static void takesNone() {
         Doc.says(12, "NONE: none such.");
-        BridgesAreLent x = usual();
-        Edges.outside("bridge", x, 0, 2, b -> x.takes(b, 0), NONE);
-        Edges.outside("bridge, to the shed", x, 0, 2, b -> x.takes(b, NONE), NONE);
-        Edges.outside("crossing", x, NONE, 3, c -> x.takes(0, c), NONE);
-        x.tow(0, 0);
-        Edges.outside("crossing, towed", x, NONE, 3, c -> x.takes(0, c), NONE);
+        Edges.Making made = EdgesOfHours::usual;
+        Edges.outside("bridge", made, 0, 2, (o, b) -> o.takes(b, 0), NONE);
+        Edges.outside("bridge, to the shed", made, 0, 2, (o, b) -> o.takes(b, NONE), NONE);
+        Edges.outside("crossing", made, NONE, 3, (o, c) -> o.takes(0, c), NONE);
+        Edges.Making towed = () -> {
+            BridgesAreLent o = usual();
+            o.tow(0, 0);
+            return o;
+        };
+        Edges.outside("crossing, towed", towed, NONE, 3, (o, c) -> o.takes(0, c), NONE);
         BridgesAreLent y = new BridgesAreLent();
         Check.due("no bridges", y.takes(0, NONE), NONE);
         Check.bridges(y, "11");
@@ -129,17 +135,19 @@ final class EdgesOfHours {
 
     private static void towAsTakes() {
         Doc.says(13, "-2, -3, -4, NONE: as takes().");
-        BridgesAreLent x = Check.laid(Check.RIVER, Check.BRIDGES, "", NONE, 0);
-        x.tow(0, 1);
+        Edges.Making made = () -> Check.laid(Check.RIVER, Check.BRIDGES, "", NONE, 0);
         int[][] want = {{0, NONE, -2}, {1, 0, -2}, {0, 3, -2}, {2, NONE, -2}, {2, 3, -3}, {1, 3, -3}, {2, 1, -3}, {2, 0, -4},
             {1, 1, -4}, {3, 0, NONE}, {-1, 0, NONE}, {0, 4, NONE}, {0, -2, NONE}};
         for (int[] w : want) {
+            BridgesAreLent x = made.object();
+            x.tow(0, 1);
             Check.refused("tow " + w[0] + " " + w[1], x, () -> x.tow(w[0], w[1]), w[2]);
             Check.due("takes " + w[0] + " " + w[1], x.takes(w[0], w[1]), w[2]);
         }
-        Edges.outside("bridge", x, 0, 2, b -> x.tow(b, 3), NONE);
-        Edges.outside("crossing", x, NONE, 3, c -> x.tow(1, c), NONE);
-        Check.due("one that is taken", x.takes(1, 2), x.tow(1, 2));
+        Edges.outside("bridge", made, 0, 2, (o, b) -> o.tow(b, 3), NONE);
+        Edges.outside("crossing", made, NONE, 3, (o, c) -> o.tow(1, c), NONE);
+        BridgesAreLent y = made.object();
+        Check.due("one that is taken", y.takes(1, 2), y.tow(1, 2));
     }
 
     private static void lendTill() {
@@ -171,10 +179,11 @@ final class EdgesOfHours {
 
     private static void lendAnotherHour() {
         Doc.says(14, "-2: another HOUR;");
-        BridgesAreLent x = usual();
         for (int hour : new int[] {0, -2, -999999, 1000000, Edges.LOWEST, Edges.GREATEST}) {
-            Check.refused("hour " + hour, x, () -> x.lend(0, hour), -2);
+            BridgesAreLent y = usual();
+            Check.refused("hour " + hour, y, () -> y.lend(0, hour), -2);
         }
+        BridgesAreLent x = usual();
         x.hours(99);
         for (int hour : new int[] {0, 1, 98, 99}) {
             Check.refused("hour " + hour + " at hour 99", x, () -> x.lend(0, hour), -2);
@@ -184,9 +193,9 @@ final class EdgesOfHours {
 
     private static void lendNoBridge() {
         Doc.says(14, "-3: no such BRIDGE (asked first).");
-        BridgesAreLent x = usual();
+        Edges.Making made = EdgesOfHours::usual;
         for (int hour : new int[] {NONE, 0, -2, 9, 1000000}) {
-            Edges.outside("hour " + hour + ", bridge", x, 0, 2, b -> x.lend(b, hour), -3);
+            Edges.outside("hour " + hour + ", bridge", made, 0, 2, (o, b) -> o.lend(b, hour), -3);
         }
         Check.due("no bridges", new BridgesAreLent().lend(0, 9), -3);
     }
@@ -231,9 +240,9 @@ final class EdgesOfHours {
 
     private static void crossNone() {
         Doc.says(15, "NONE: none such.");
-        BridgesAreLent x = Check.laid(Check.RIVER, Check.BRIDGES, "a1;b1;c1", NONE, 0);
-        Edges.outside("person", x, 0, 2, p -> x.cross(p, 0), NONE);
-        Edges.outside("crossing", x, 0, 3, c -> x.cross(0, c), NONE);
+        Edges.Making made = () -> Check.laid(Check.RIVER, Check.BRIDGES, "a1;b1;c1", NONE, 0);
+        Edges.outside("person", made, 0, 2, (o, p) -> o.cross(p, 0), NONE);
+        Edges.outside("crossing", made, 0, 3, (o, c) -> o.cross(0, c), NONE);
         Check.due("no river", new BridgesAreLent().cross(0, 0), NONE);
     }
 
@@ -286,10 +295,12 @@ final class EdgesOfHours {
 
     private static void hoursRefused() {
         Doc.says(16, "Refused: another n.");
-        BridgesAreLent x = usual();
-        x.tow(0, 0);
-        x.lend(0, 1);
-        Edges.outside("hours", x, 0, 99, n -> x.hours(n), NONE);
-        Check.due("an hour yet", x.bridge(0, 3), 2);
+        Edges.Making made = () -> {
+            BridgesAreLent o = usual();
+            o.tow(0, 0);
+            o.lend(0, 1);
+            return o;
+        };
+        Edges.outside("hours", made, 0, 99, (o, n) -> o.hours(n), NONE);
     }
 }

@@ -56,8 +56,11 @@ final class EdgesOfKept {
 
     private static void keepRefused() {
         Doc.says(42, "Refused: others.");
-        BridgesAreLent x = usual();
-        Edges.outside("keep", x, 0, 2, i -> x.keep(i) ? 1 : 0, 0);
+        Edges.Making made = EdgesOfKept::usual;
+        BridgesAreLent x = made.object();
+        Edges.outside("keep", made, 0, 2, (o, i) -> o.keep(i) ? 1 : 0, 0);
+        x.keep(-1);
+        x.keep(3);
         for (int i = 0; i <= 2; i++) {
             Check.due("nothing is kept under " + i, x.again(i), false);
         }
@@ -85,14 +88,15 @@ final class EdgesOfKept {
 
     private static void againRefused() {
         Doc.says(43, "Refused: nothing kept, BRIDGES or PEOPLE came since.");
-        BridgesAreLent x = usual();
-        for (int i = -1; i <= 3; i++) {
-            int of = i;
-            Check.refused("nothing kept under " + i, x, () -> x.again(of) ? 1 : 0, 0);
-        }
-        x.keep(1);
-        Check.refused("kept under another", x, () -> x.again(0) ? 1 : 0, 0);
-        Edges.outside("again", x, 0, 2, i -> x.again(i) ? 1 : 0, 0);
+        Edges.outside("nothing kept", EdgesOfKept::usual, 0, -1, (o, i) -> o.again(i) ? 1 : 0, 0);
+        Edges.Making made = () -> {
+            BridgesAreLent o = usual();
+            o.keep(1);
+            o.hours(1);
+            return o;
+        };
+        Edges.outside("kept under 1", made, 1, 1, (o, i) -> o.again(i) ? 1 : 0, 0);
+        BridgesAreLent x = made.object();
         Check.bridges(x, "");
         Check.people(x, "");
         Check.bridges(x, "0");
@@ -192,8 +196,9 @@ final class EdgesOfKept {
 
     private static void countAnother() {
         Doc.says(44, "-100 for another what.");
-        BridgesAreLent x = usual();
-        Edges.outside("count", x, 0, 13, x::count, -100);
+        Edges.Making made = EdgesOfKept::usual;
+        BridgesAreLent x = made.object();
+        Edges.outside("count", made, 0, 13, BridgesAreLent::count, -100);
         for (int what = 0; what <= 13; what++) {
             Check.due("count " + what, x.count(what) != -100, true);
         }

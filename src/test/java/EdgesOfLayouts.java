@@ -39,9 +39,11 @@ final class EdgesOfLayouts {
 
     private static void laysWhether() {
         Doc.says(24, "Whether CROSSINGS told as bits can all have BRIDGES at once: 1, or 0;");
-        BridgesAreLent x = Check.object("2" + Check.times(";ab1:1", 10), SIX, "");
-        for (int those = 0; those < 1024; those++) {
-            Check.due("of ten, " + those, x.lays(those), Integer.bitCount(those) <= 6 ? 1 : 0);
+        for (int from = 0; from < 1024; from += 256) {
+            BridgesAreLent x = Check.object("2" + Check.times(";ab1:1", 10), SIX, "");
+            for (int those = from; those < from + 256; those++) {
+                Check.due("of ten, " + those, x.lays(those), Integer.bitCount(those) <= 6 ? 1 : 0);
+            }
         }
         BridgesAreLent y = Check.object("2;ab1:9;ab1:9;ab1:5", "99;89;59", "");
         Check.due("just as long", y.lays(5), 1);
@@ -84,14 +86,15 @@ final class EdgesOfLayouts {
 
     private static void laysNone() {
         Doc.says(24, "NONE: bits of none such.");
-        BridgesAreLent x = Check.object("2;ab1:1;ab2:1;ab3:1", "19;19;19", "");
+        Edges.Making made = () -> Check.object("2;ab1:1;ab2:1;ab3:1", "19;19;19", "");
+        BridgesAreLent x = made.object();
         Edges.taken("lays", 0, 7, x::lays);
-        Edges.outside("lays", x, 0, 7, x::lays, NONE);
+        Edges.outside("lays", made, 0, 7, BridgesAreLent::lays, NONE);
         Check.refused("bit 3, and others", x, () -> x.lays(15), NONE);
-        BridgesAreLent y = Check.object("2" + Check.times(";ab1:1", 10), SIX, "");
-        Edges.outside("lays, ten", y, 0, 1023, y::lays, NONE);
-        BridgesAreLent z = new BridgesAreLent();
-        Edges.outside("lays, none", z, 0, 0, z::lays, NONE);
+        Edges.Making madeToo = () -> Check.object("2" + Check.times(";ab1:1", 10), SIX, "");
+        Edges.outside("lays, ten", madeToo, 0, 1023, BridgesAreLent::lays, NONE);
+        Edges.Making madeLast = () -> new BridgesAreLent();
+        Edges.outside("lays, none", madeLast, 0, 0, BridgesAreLent::lays, NONE);
     }
 
     private static void joinsFewest() {
@@ -134,14 +137,16 @@ final class EdgesOfLayouts {
 
     private static void joinsNone() {
         Doc.says(25, "NONE: bits of none such.");
-        BridgesAreLent x = Check.object("3;ab1:1;bc1:1;ac1:1;ab1:1", SIX, "");
+        Edges.Making made = () -> Check.object("3;ab1:1;bc1:1;ac1:1;ab1:1", SIX, "");
+        BridgesAreLent x = made.object();
         Edges.taken("joins", 0, 7, x::joins);
-        Edges.outside("joins", x, 0, 7, x::joins, NONE);
-        BridgesAreLent y = Check.object(LINE, SIX, "");
-        Edges.outside("joins, eight", y, 0, 255, y::joins, NONE);
-        BridgesAreLent z = new BridgesAreLent();
+        Edges.outside("joins", made, 0, 7, BridgesAreLent::joins, NONE);
+        Edges.Making madeToo = () -> Check.object(LINE, SIX, "");
+        Edges.outside("joins, eight", madeToo, 0, 255, BridgesAreLent::joins, NONE);
+        Edges.Making madeLast = () -> new BridgesAreLent();
+        BridgesAreLent z = madeLast.object();
         Edges.taken("joins, none", 0, 0, z::joins);
-        Edges.outside("joins, none", z, 0, 0, z::joins, NONE);
+        Edges.outside("joins, none", madeLast, 0, 0, BridgesAreLent::joins, NONE);
     }
 
     private static void nightMost() {
@@ -333,9 +338,10 @@ final class EdgesOfLayouts {
 
     private static void floodNone() {
         Doc.says(28, "NONE: another v.");
-        BridgesAreLent x = Check.laid("2;ab1:1", "99", "", 0);
+        Edges.Making made = () -> Check.laid("2;ab1:1", "99", "", 0);
+        BridgesAreLent x = made.object();
         Edges.taken("flood", 0, 9, x::flood);
-        Edges.outside("flood", x, 0, 9, x::flood, NONE);
+        Edges.outside("flood", made, 0, 9, BridgesAreLent::flood, NONE);
     }
 
     private static void highestGreatest() {
@@ -416,8 +422,9 @@ final class EdgesOfLayouts {
 
     private static void worstNone() {
         Doc.says(30, "NONE: another n.");
-        BridgesAreLent x = Check.laid("2;ab1:1", "99", "", 0);
+        Edges.Making made = () -> Check.laid("2;ab1:1", "99", "", 0);
+        BridgesAreLent x = made.object();
         Edges.taken("worst", 0, 3, x::worst);
-        Edges.outside("worst", x, 0, 3, x::worst, NONE);
+        Edges.outside("worst", made, 0, 3, BridgesAreLent::worst, NONE);
     }
 }

@@ -35,9 +35,9 @@ final class EdgesOfLoans {
 
     private static void shareTurns() {
         Doc.says(37, "Two share a BRIDGE for n HOURS (1 .. 48) by turns of k HOURS (1 .. 48), the first begins;");
-        BridgesAreLent x = new BridgesAreLent();
         for (int n = 1; n <= 48; n++) {
             for (int k = 1; k <= 48; k++) {
+                BridgesAreLent x = new BridgesAreLent();
                 int first = n / (2 * k) * k + Math.min(n % (2 * k), k);
                 Check.due("n " + n + ", k " + k + ", the first", x, x.share(ALL, 0, n, k), first, n - first, 0);
                 Check.due("n " + n + ", k " + k + ", the second", x, x.share(0, ALL, n, k), n - first, 0, first);
@@ -47,14 +47,15 @@ final class EdgesOfLoans {
 
     private static void shareBits() {
         Doc.says(37, "each wants it in HOURS by its own bits (HOUR h by 24, bits 0 .. 23 of one, other):");
-        BridgesAreLent x = new BridgesAreLent();
         for (int h = 0; h < 24; h++) {
+            BridgesAreLent x = new BridgesAreLent();
             Check.due("hour " + h, x, x.share(1 << h, 0, h + 1, 48), 1, 0, 0);
             Check.due("hour " + h + ", an hour too few", x, x.share(1 << h, 0, Math.max(1, h), 48), h == 0 ? 1 : 0, 0, 0);
             Check.due("hour " + h + " of the next day", x, x.share(1 << h, 0, 24 + h + 1, 48), 2, 0, 0);
             Check.due("hour " + h + " of the second one's day", x, x.share(0, 1 << h, 48, 24), 1, 0, 1);
         }
-        Check.due("all bits", x, x.share(ALL, ALL, 48, 7), 48, 21, 27);
+        BridgesAreLent y = new BridgesAreLent();
+        Check.due("all bits", y, y.share(ALL, ALL, 48, 7), 48, 21, 27);
     }
 
     private static void shareHas() {
@@ -77,15 +78,17 @@ final class EdgesOfLoans {
 
     private static void shareNone() {
         Doc.says(37, "NONE: others (bits above 23, too).");
-        BridgesAreLent x = new BridgesAreLent();
+        Edges.Making made = () -> new BridgesAreLent();
+        BridgesAreLent x = made.object();
         Check.due("the greatest of all", x, x.share(ALL, ALL, 48, 48), 48, 0, 48);
-        Edges.outside("n", x, 1, 48, n -> x.share(1, 1, n, 1), NONE);
-        Edges.outside("k", x, 1, 48, k -> x.share(1, 1, 1, k), NONE);
+        Edges.outside("n", made, 1, 48, (o, n) -> o.share(1, 1, n, 1), NONE);
+        Edges.outside("k", made, 1, 48, (o, k) -> o.share(1, 1, 1, k), NONE);
         for (int bit = 24; bit < 32; bit++) {
             int above = 1 << bit;
-            Check.refused("bit " + bit + " of one", x, () -> x.share(above, 1, 1, 1), NONE);
-            Check.refused("bit " + bit + " of the other", x, () -> x.share(1, above, 1, 1), NONE);
-            Check.refused("bit " + bit + " of both, and others", x, () -> x.share(above | 1, above | 1, 1, 1), NONE);
+            BridgesAreLent y = new BridgesAreLent();
+            Check.refused("bit " + bit + " of one", y, () -> y.share(above, 1, 1, 1), NONE);
+            Check.refused("bit " + bit + " of the other", y, () -> y.share(1, above, 1, 1), NONE);
+            Check.refused("bit " + bit + " of both, and others", y, () -> y.share(above | 1, above | 1, 1, 1), NONE);
         }
         Check.refused("all bits", x, () -> x.share(-1, -1, 1, 1), NONE);
     }
@@ -123,13 +126,15 @@ final class EdgesOfLoans {
 
     private static void turnNone() {
         Doc.says(38, "NONE: likewise.");
-        BridgesAreLent x = new BridgesAreLent();
+        Edges.Making made = () -> new BridgesAreLent();
+        BridgesAreLent x = made.object();
         Edges.taken("n", 1, 48, n -> x.turn(1, 2, n));
-        Edges.outside("n", x, 1, 48, n -> x.turn(1, 2, n), NONE);
+        Edges.outside("n", made, 1, 48, (o, n) -> o.turn(1, 2, n), NONE);
         for (int bit = 24; bit < 32; bit++) {
             int above = 1 << bit;
-            Check.refused("bit " + bit + " of one", x, () -> x.turn(above, 1, 1), NONE);
-            Check.refused("bit " + bit + " of the other", x, () -> x.turn(1, above, 1), NONE);
+            BridgesAreLent y = new BridgesAreLent();
+            Check.refused("bit " + bit + " of one", y, () -> y.turn(above, 1, 1), NONE);
+            Check.refused("bit " + bit + " of the other", y, () -> y.turn(1, above, 1), NONE);
         }
     }
 
@@ -166,9 +171,10 @@ final class EdgesOfLoans {
 
     private static void restsNone() {
         Doc.says(39, "NONE: another c.");
-        BridgesAreLent x = new BridgesAreLent();
+        Edges.Making made = () -> new BridgesAreLent();
+        BridgesAreLent x = made.object();
         Edges.taken("rests", 0, 9, x::rests);
-        Edges.outside("rests", x, 0, 9, x::rests, NONE);
+        Edges.outside("rests", made, 0, 9, BridgesAreLent::rests, NONE);
     }
 
     private static void homeBroken() {
@@ -242,8 +248,8 @@ final class EdgesOfLoans {
     private static void yearsNights() {
         Doc.says(41, "n nights (1 .. 60): in each a DRAW of how many BRIDGES there are tells one, which, if it is at a CROSSING,");
         // a DRAW of one bridge is always that one: a CROSSING farther in each night, till it is too wide
-        BridgesAreLent x = Check.laid("2;ab0:1;ab1:1;ab2:1;ab3:1;ab4:1;ab5:1;ab6:1;ab7:1;ab8:1;ab9:2", "19", "", 0);
         for (int n = 1; n <= 60; n++) {
+            BridgesAreLent x = Check.laid("2;ab0:1;ab1:1;ab2:1;ab3:1;ab4:1;ab5:1;ab6:1;ab7:1;ab8:1;ab9:2", "19", "", 0);
             Check.due("nights " + n, x, x.years(77, n), n < 9 ? 1 : 0, n < 9 ? 0 : 1, n < 9 ? 1 : 0);
         }
         BridgesAreLent y = Check.object("2;ab9:1;ab10:2", "19", "");
@@ -309,9 +315,10 @@ final class EdgesOfLoans {
 
     private static void yearsNone() {
         Doc.says(41, "NONE: another n, no BRIDGES.");
-        BridgesAreLent x = Check.laid("2;ab1:1", "19", "", 0);
+        Edges.Making made = () -> Check.laid("2;ab1:1", "19", "", 0);
+        BridgesAreLent x = made.object();
         Edges.taken("years", 1, 60, n -> x.years(1, n));
-        Edges.outside("years", x, 1, 60, n -> x.years(1, n), NONE);
+        Edges.outside("years", made, 1, 60, (o, n) -> o.years(1, n), NONE);
         BridgesAreLent y = Check.object("2;ab1:1", "", "");
         Check.refused("no bridges", y, () -> y.years(1, 1), NONE);
         Check.due("a new object", new BridgesAreLent().years(1, 60), NONE);
@@ -319,15 +326,15 @@ final class EdgesOfLoans {
 
     private static void yearsChangeNothing() {
         Doc.says(41, "(Nothing changes.)");
-        BridgesAreLent x = Check.laid("3;ab1:1;bc2:1;ac3:9", "19;19;19", "a1", 0);
-        x.tow(1, 1);
-        x.lend(0, 9);
-        String before = Check.things(x);
         for (int seed = -9; seed <= 9; seed++) {
+            BridgesAreLent x = Check.laid("3;ab1:1;bc2:1;ac3:9", "19;19;19", "a1", 0);
+            x.tow(1, 1);
+            x.lend(0, 9);
+            String before = Check.things(x);
             x.years(seed, 60);
             Check.due("seed " + seed, Check.things(x), before);
+            Check.due("what can be undone", x.count(10), 2);
         }
-        Check.due("what can be undone", x.count(10), 2);
     }
 
     /** What the document's own formula draws, reckoned in longs. */

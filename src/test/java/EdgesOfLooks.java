@@ -239,15 +239,15 @@ final class EdgesOfLooks {
 
     private static void sheetNone() {
         Doc.says(11, "NONE: another kind, n above 6 (these first).");
-        BridgesAreLent x = six();
         for (int n : new int[] {-1, 0, 6, 7}) {
-            Edges.outside("n " + n + ", kind", x, 0, 3, kind -> x.sheet(kind, n, 1, 1), NONE);
+            Edges.outside("n " + n + ", kind", EdgesOfLooks::six, 0, 3, (o, kind) -> o.sheet(kind, n, 1, 1), NONE);
         }
         for (int kind = 0; kind <= 3; kind++) {
             int of = kind;
-            Check.refused("kind " + kind + ", n 7", x, () -> x.sheet(of, 7, 1, 1), NONE);
-            Check.refused("kind " + kind + ", n far above 6", x, () -> x.sheet(of, Edges.GREATEST, 1, 1), NONE);
+            Edges.outside("kind " + kind + ", n", EdgesOfLooks::six, Edges.LOWEST, 6, (o, n) -> o.sheet(of, n, 1, 1), NONE);
+            BridgesAreLent x = six();
+            x.sheet(kind, 7, 1, 1);
+            sounds("they stay, kind " + kind, x, "555555");
         }
-        sounds("they stay", x, "555555");
     }
 }

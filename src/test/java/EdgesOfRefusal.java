@@ -33,11 +33,9 @@ final class EdgesOfRefusal {
         x.found(1, 9, 0);
         x.lend(1, 3);
         x.tow(2, 2);
-        x.lend(0, 50);
-        x.cross(0, 0);
         x.hours(3);
         x.keep(2);
-        Check.day(x, "h1;l39");
+        Check.day(x, "h1;l39;l046;ca0");
         x.route(1, 1);
         return Check.write(x, text);
     }
@@ -45,8 +43,8 @@ final class EdgesOfRefusal {
     /** What an object tells of itself, and then by deeds undone, by what was kept, by a river anew. */
     private static String probe(BridgesAreLent x) {
         StringBuilder all = new StringBuilder(Check.sight(x)).append("| signs ").append(x.count(12));
-        for (int b = 0; b < x.count(2); b++) {
-            for (int c = NONE; c < x.count(1); c++) {
+        for (int b = 0; b < 4; b++) {
+            for (int c = NONE; c < 4; c++) {
                 all.append(' ').append(x.takes(b, c));
             }
         }

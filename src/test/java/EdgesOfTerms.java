@@ -8,6 +8,7 @@ final class EdgesOfTerms {
     }
 
     static void all() {
+        lastCalls();
         banks();
         crossings();
         unlikeBanks();
@@ -40,10 +41,30 @@ final class EdgesOfTerms {
         return new BridgesAreLent();
     }
 
+    private static void lastCalls() {
+        Doc.says(Doc.WHAT_IT_IS, "An object is used for at most 512 calls after it has been made;");
+        BridgesAreLent x = empty();
+        for (int call = 1; call <= 511; call++) {
+            Check.due("call " + call, x.hours(99), 99 * call);
+        }
+        Check.due("call 512", x.undo(), 14);
+        BridgesAreLent y = Check.laid("2;ab1:1", "19", "a1", 0);
+        // 25 calls were made for it
+        for (int i = 0; i < 486; i++) {
+            Check.due("there and back", y.cross(0, 0), 1 - i % 2);
+        }
+        Check.due("call 512: where it is", y.person(0, 0), 0);
+        BridgesAreLent z = empty();
+        for (int call = 1; call <= 511; call++) {
+            Check.due("call " + call, z.end(0), true);
+        }
+        Check.due("call 512: a sign", z.sign(0), 4);
+    }
+
     private static void banks() {
         Doc.says(Doc.TERMS, "BANKS 0 .. (2 .. 8; written a .. h).");
-        BridgesAreLent x = empty();
         for (int banks = 2; banks <= 8; banks++) {
+            BridgesAreLent x = empty();
             char last = (char) ('a' + banks - 1);
             char next = (char) (last + 1);
             Edges.takes(x, BridgesAreLent::river, banks + ";a" + last + "5:1", 1);
@@ -53,9 +74,9 @@ final class EdgesOfTerms {
             Edges.at(x, BridgesAreLent::river, banks + ";a" + next + "5:1", 3);
             Edges.at(x, BridgesAreLent::river, banks + ";" + next + "a5:1", 2);
         }
-        Edges.at(x, BridgesAreLent::river, "1;ab5:1", 0);
-        Edges.at(x, BridgesAreLent::river, "9;ab5:1", 0);
-        Edges.at(x, BridgesAreLent::river, "0", 0);
+        Edges.at(empty(), BridgesAreLent::river, "1;ab5:1", 0);
+        Edges.at(empty(), BridgesAreLent::river, "9;ab5:1", 0);
+        Edges.at(empty(), BridgesAreLent::river, "0", 0);
     }
 
     private static void crossings() {

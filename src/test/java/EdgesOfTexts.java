@@ -88,11 +88,8 @@ final class EdgesOfTexts {
             Check.due("count", x.count(12), n);
         }
         for (int n = 0; n <= 76; n++) {
-            x.end(n);
-            Check.due("behind " + n, x.sign(0), n + 4);
-            while (x.count(12) < 77) {
-                x.sign(0);
-            }
+            BridgesAreLent y = Check.write(new BridgesAreLent(), Check.times("x", n));
+            Check.due("behind " + n, y.sign(0), n + 4);
         }
     }
 
@@ -185,15 +182,15 @@ final class EdgesOfTexts {
 
     private static void riverCantStand() {
         Doc.says(4, "-1 - p: the sign at p can't stand there");
-        BridgesAreLent x = Check.object(Check.RIVER, Check.BRIDGES, Check.PEOPLE);
+        Edges.Making made = () -> Check.object(Check.RIVER, Check.BRIDGES, Check.PEOPLE);
         String river = "3;ab12:3;bc4:5";
         for (int p = 0; p < river.length(); p++) {
             for (char wrong : new char[] {'.', 0, 255}) {
-                Edges.at(x, BridgesAreLent::river, river.substring(0, p) + wrong + river.substring(p + 1), p);
-                Edges.at(x, BridgesAreLent::river, river.substring(0, p) + wrong, p);
+                Edges.at(made, BridgesAreLent::river, river.substring(0, p) + wrong + river.substring(p + 1), p);
+                Edges.at(made, BridgesAreLent::river, river.substring(0, p) + wrong, p);
             }
         }
-        Edges.at(x, BridgesAreLent::river, river + ".", river.length());
+        Edges.at(made, BridgesAreLent::river, river + ".", river.length());
         String[][] some = {{"", "2345678"}, {"3", ";"}, {"3;", "abc"}, {"3;a", "bc"}, {"3;b", "ac"}, {"3;ab", Edges.DIGITS},
             {"3;ab1", Edges.DIGITS + ":"}, {"3;ab12", ":"}, {"3;ab12:", Edges.FROM_1}, {"3;ab12:3", ";"}, {TEN, ""}};
         for (String[] s : some) {
@@ -203,13 +200,11 @@ final class EdgesOfTexts {
 
     private static void riverEndsTooEarly() {
         Doc.says(4, "(its end, if it ends too early;");
-        BridgesAreLent x = new BridgesAreLent();
-        Edges.at(x, BridgesAreLent::river, "", 0);
         for (int n = 0; n < TEN.length(); n++) {
             if (n % 7 == 1) {
-                Edges.takes(x, BridgesAreLent::river, TEN.substring(0, n), n / 7);
+                Edges.takes(new BridgesAreLent(), BridgesAreLent::river, TEN.substring(0, n), n / 7);
             } else {
-                Edges.at(x, BridgesAreLent::river, TEN.substring(0, n), n);
+                Edges.at(BridgesAreLent::new, BridgesAreLent::river, TEN.substring(0, n), n);
             }
         }
     }

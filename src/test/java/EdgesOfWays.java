@@ -91,9 +91,9 @@ final class EdgesOfWays {
 
     private static void routeNone() {
         Doc.says(19, "NONE: none such.");
-        BridgesAreLent x = line(9, "a1;h1");
-        Edges.outside("person", x, 0, 1, p -> x.route(p, 0), NONE);
-        Edges.outside("bank", x, 0, 7, bank -> x.route(0, bank), NONE);
+        Edges.Making made = () -> line(9, "a1;h1");
+        Edges.outside("person", made, 0, 1, (o, p) -> o.route(p, 0), NONE);
+        Edges.outside("bank", made, 0, 7, (o, bank) -> o.route(0, bank), NONE);
         Check.due("no river", new BridgesAreLent().route(0, 0), NONE);
     }
 
@@ -123,11 +123,12 @@ final class EdgesOfWays {
 
     private static void joinedNone() {
         Doc.says(20, "NONE: none such.");
-        BridgesAreLent x = Check.laid(RING, "19", "", 0);
+        Edges.Making made = () -> Check.laid(RING, "19", "", 0);
+        BridgesAreLent x = made.object();
         Edges.taken("joined", 0, 3, x::joined);
-        Edges.outside("joined", x, 0, 3, x::joined, NONE);
-        BridgesAreLent y = new BridgesAreLent();
-        Edges.outside("joined, no banks", y, 0, -1, y::joined, NONE);
+        Edges.outside("joined", made, 0, 3, BridgesAreLent::joined, NONE);
+        Edges.Making madeToo = () -> new BridgesAreLent();
+        Edges.outside("joined, no banks", madeToo, 0, -1, BridgesAreLent::joined, NONE);
     }
 
     private static BridgesAreLent towed(String river, int... hours) {
@@ -197,9 +198,9 @@ final class EdgesOfWays {
 
     private static void soonestNone() {
         Doc.says(21, "NONE: none such.");
-        BridgesAreLent x = line(9, "a1;h1");
-        Edges.outside("person", x, 0, 1, p -> x.soonest(p, 0), NONE);
-        Edges.outside("bank", x, 0, 7, bank -> x.soonest(0, bank), NONE);
+        Edges.Making made = () -> line(9, "a1;h1");
+        Edges.outside("person", made, 0, 1, (o, p) -> o.soonest(p, 0), NONE);
+        Edges.outside("bank", made, 0, 7, (o, bank) -> o.soonest(0, bank), NONE);
         Check.due("no river", new BridgesAreLent().soonest(0, 0), NONE);
     }
 
@@ -291,9 +292,9 @@ final class EdgesOfWays {
 
     private static void movesNone() {
         Doc.says(22, "NONE: none such.");
-        BridgesAreLent x = line(9, "a1;h1");
-        Edges.outside("person", x, 0, 1, p -> x.moves(p, 0), NONE);
-        Edges.outside("bank", x, 0, 7, bank -> x.moves(0, bank), NONE);
+        Edges.Making made = () -> line(9, "a1;h1");
+        Edges.outside("person", made, 0, 1, (o, p) -> o.moves(p, 0), NONE);
+        Edges.outside("bank", made, 0, 7, (o, bank) -> o.moves(0, bank), NONE);
         Check.due("no river", new BridgesAreLent().moves(0, 0), NONE);
     }
 

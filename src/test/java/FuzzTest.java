@@ -4,9 +4,16 @@ import java.util.Random;
 /** All calls with arguments of every kind: none throws but where the document says so, and refused ones change nothing. */
 public final class FuzzTest {
     private static final int NONE = BridgesAreLent.NONE;
+    private static final int SHEET = 6;
+    private static final int LEND = 9;
+
+    /** What one object is asked: with the texts, and the looks at its end, well below 512 calls. */
+    private static final int STEPS = 40;
 
     private final Random random;
     private final BridgesAreLent x = new BridgesAreLent();
+    /** Does all that was not refused, and nothing else. */
+    private final BridgesAreLent twin = new BridgesAreLent();
     private final String name;
 
     private FuzzTest(int seed) {
@@ -15,7 +22,7 @@ public final class FuzzTest {
     }
 
     public static void main(String[] args) {
-        for (int seed = 0; seed < 300; seed++) {
+        for (int seed = 0; seed < 2500; seed++) {
             new FuzzTest(seed).run();
         }
         Check.finish();
@@ -41,69 +48,95 @@ public final class FuzzTest {
     private void write() {
         String[] texts = {Check.RIVER, "8;ah99:9;bg0:1;cf50:5", "2;ab0:1", "53;49;36", "99", "a4;c2", "a9", "t01;h9;ca0", "h99",
             "l09;t2-", "d/9+u", "(s<3)*9", "ab,cd", "ab", "", "x", "t00;t11;t22;h9"};
-        Check.write(x, texts[random.nextInt(texts.length)]);
+        String text = texts[random.nextInt(texts.length)];
+        Check.write(x, text);
+        Check.write(twin, text);
         if (random.nextInt(9) == 0) {
-            x.sign(number());
+            int four = number();
+            x.sign(four);
+            twin.sign(four);
+        }
+    }
+
+    /** A start that most calls need, told to most objects. */
+    private void begin() {
+        if (random.nextInt(9) > 0) {
+            for (BridgesAreLent each : new BridgesAreLent[] {x, twin}) {
+                Check.river(each, Check.RIVER);
+                Check.bridges(each, Check.BRIDGES);
+                Check.people(each, Check.PEOPLE);
+                Check.day(each, "t01;t10;h9");
+            }
         }
     }
 
     private void run() {
-        for (int i = 0; i < 250; i++) {
+        begin();
+        for (int i = 0; i < STEPS; i++) {
             write();
             int call = random.nextInt(42);
-            String before = Check.sight(x);
-            long answer = call < 38 ? answer(call) : shown(call);
-            if (answer == NONE && call != 9) {
-                Check.due(name + "refused call " + call + " changes something", Check.sight(x), before);
+            if (call >= 38) {
+                shown(call);
+            } else {
+                int[] v = {number(), number(), number(), number()};
+                long answer = answer(x, call, v);
+                if (!isRefusal(call, answer)) {
+                    Check.due(name + "the same call " + call + " of a twin", answer(twin, call, v), answer);
+                }
             }
-            sane();
         }
+        Check.due(name + "refused calls change something", Check.sight(x), Check.sight(twin));
+        sane();
     }
 
-    private long answer(int call) {
-        int a = number();
-        int b = number();
-        int c = number();
-        int d = number();
+    /** Of answers below 0 those of a loan that was none, and of a missing sheet, are none. */
+    private static boolean isRefusal(int call, long answer) {
+        if (call == LEND) {
+            return answer < NONE;
+        }
+        return answer < 0 && !(call == SHEET && answer == -3);
+    }
+
+    private static long answer(BridgesAreLent o, int call, int[] v) {
         return switch (call) {
-            case 0 -> x.sign(a);
-            case 1 -> x.end(a) ? 0 : NONE;
-            case 2 -> x.river();
-            case 3 -> x.bridges();
-            case 4 -> x.people();
-            case 5 -> x.rule();
-            case 6 -> x.sheet(a, b, c, d);
-            case 7 -> x.takes(a, b);
-            case 8 -> x.tow(a, b);
-            case 9 -> x.lend(a, b);
-            case 10 -> x.cross(a, b);
-            case 11 -> x.hours(a);
-            case 12 -> x.day();
-            case 13 -> x.undo();
-            case 14 -> x.route(a, b);
-            case 15 -> x.joined(a);
-            case 16 -> x.soonest(a, b);
-            case 17 -> x.moves(a, b);
-            case 18 -> x.needed();
-            case 19 -> x.lays(a);
-            case 20 -> x.joins(a);
-            case 21 -> x.night();
-            case 22 -> x.errands();
-            case 23 -> x.flood(a);
-            case 24 -> x.highest();
-            case 25 -> x.worst(a);
-            case 26 -> x.drift(a, b, c, d);
-            case 27 -> x.seek(a, b, c);
-            case 28 -> x.found(a, b, c);
-            case 29 -> x.forget();
-            case 30 -> x.stolen();
-            case 31 -> x.ask();
-            case 32 -> x.share(a, b, c, d);
-            case 33 -> x.turn(a, b, c);
-            case 34 -> x.rests(a);
-            case 35 -> x.home();
-            case 36 -> x.years(a, b);
-            default -> x.keep(a) || x.again(b) ? 0 : NONE;
+            case 0 -> o.sign(v[0]);
+            case 1 -> o.end(v[0]) ? 0 : NONE;
+            case 2 -> o.river();
+            case 3 -> o.bridges();
+            case 4 -> o.people();
+            case 5 -> o.rule();
+            case SHEET -> o.sheet(v[0], v[1], v[2], v[3]);
+            case 7 -> o.takes(v[0], v[1]);
+            case 8 -> o.tow(v[0], v[1]);
+            case LEND -> o.lend(v[0], v[1]);
+            case 10 -> o.cross(v[0], v[1]);
+            case 11 -> o.hours(v[0]);
+            case 12 -> o.day();
+            case 13 -> o.undo();
+            case 14 -> o.route(v[0], v[1]);
+            case 15 -> o.joined(v[0]);
+            case 16 -> o.soonest(v[0], v[1]);
+            case 17 -> o.moves(v[0], v[1]);
+            case 18 -> o.needed();
+            case 19 -> o.lays(v[0]);
+            case 20 -> o.joins(v[0]);
+            case 21 -> o.night();
+            case 22 -> o.errands();
+            case 23 -> o.flood(v[0]);
+            case 24 -> o.highest();
+            case 25 -> o.worst(v[0]);
+            case 26 -> o.drift(v[0], v[1], v[2], v[3]);
+            case 27 -> o.seek(v[0], v[1], v[2]);
+            case 28 -> o.found(v[0], v[1], v[2]);
+            case 29 -> o.forget();
+            case 30 -> o.stolen();
+            case 31 -> o.ask();
+            case 32 -> o.share(v[0], v[1], v[2], v[3]);
+            case 33 -> o.turn(v[0], v[1], v[2]);
+            case 34 -> o.rests(v[0]);
+            case 35 -> o.home();
+            case 36 -> o.years(v[0], v[1]);
+            default -> v[1] % 2 == 0 ? (o.keep(v[0]) ? 0 : NONE) : o.again(v[0]) ? 0 : NONE;
         };
     }
 

@@ -90,10 +90,11 @@ public final class HoursTest {
 
     private static void cross() {
         BridgesAreLent x = Check.laid(Check.RIVER, "53;49;36", "a4;c2;b3;b9", 1, 0);
-        Check.refused("cross: person 4", x, () -> x.cross(4, 0), NONE);
-        Check.refused("cross: person -1", x, () -> x.cross(-1, 0), NONE);
-        Check.refused("cross: crossing 4", x, () -> x.cross(0, 4), NONE);
-        Check.refused("cross: crossing -1", x, () -> x.cross(0, -1), NONE);
+        BridgesAreLent y = Check.laid(Check.RIVER, "53;49;36", "a4;c2;b3;b9", 1, 0);
+        Check.refused("cross: person 4", y, () -> y.cross(4, 0), NONE);
+        Check.refused("cross: person -1", y, () -> y.cross(-1, 0), NONE);
+        Check.refused("cross: crossing 4", y, () -> y.cross(0, 4), NONE);
+        Check.refused("cross: crossing -1", y, () -> y.cross(0, -1), NONE);
         Check.refused("cross: at neither", x, () -> x.cross(0, 1), -2);
         Check.refused("cross: at neither, no bridge", x, () -> x.cross(0, 2), -2);
         Check.refused("cross: no bridge", x, () -> x.cross(0, 3), -3);

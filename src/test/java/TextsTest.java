@@ -152,18 +152,17 @@ public final class TextsTest {
         Check.due("bridges: the second", x.bridge(1, 0) * 10 + x.bridge(1, 1), 99);
         Check.due("bridges: in the shed", x.count(5), 7);
         Check.due("bridges: not lent", x.count(7), 0);
-        linesAt(x, true, "0", 0);
-        linesAt(x, true, "05", 0);
-        linesAt(x, true, "a5", 0);
-        linesAt(x, true, ";", 0);
-        linesAt(x, true, "5", 1);
-        linesAt(x, true, "5;", 1);
-        linesAt(x, true, "555", 2);
-        linesAt(x, true, "55,55", 2);
-        linesAt(x, true, "55;", 3);
-        linesAt(x, true, "55;0", 3);
-        linesAt(x, true, "55;44;3", 7);
-        Check.due("bridges: nothing of these came", x.count(2), 3);
+        linesAt(Check.object(Check.RIVER, "10;99;55", ""), true, "0", 0);
+        linesAt(Check.object(Check.RIVER, "10;99;55", ""), true, "05", 0);
+        linesAt(Check.object(Check.RIVER, "10;99;55", ""), true, "a5", 0);
+        linesAt(Check.object(Check.RIVER, "10;99;55", ""), true, ";", 0);
+        linesAt(Check.object(Check.RIVER, "10;99;55", ""), true, "5", 1);
+        linesAt(Check.object(Check.RIVER, "10;99;55", ""), true, "5;", 1);
+        linesAt(Check.object(Check.RIVER, "10;99;55", ""), true, "555", 2);
+        linesAt(Check.object(Check.RIVER, "10;99;55", ""), true, "55,55", 2);
+        linesAt(Check.object(Check.RIVER, "10;99;55", ""), true, "55;", 3);
+        linesAt(Check.object(Check.RIVER, "10;99;55", ""), true, "55;0", 3);
+        linesAt(Check.object(Check.RIVER, "10;99;55", ""), true, "55;44;3", 7);
     }
 
     private static void bridgesWithoutRoom() {
@@ -177,17 +176,17 @@ public final class TextsTest {
         linesAt(x, true, "x", 0);
         Check.due("bridges: nothing still comes", Check.bridges(x, ""), 0);
         BridgesAreLent y = Check.object(Check.RIVER, "", "");
-        linesAt(y, true, "11;11;11;11;11;11;", 17);
-        linesAt(y, true, "11;11;11;11;11;11;11", 17);
-        linesAt(y, true, "11;11;11;11;11;111", 17);
-        linesAt(y, true, "11;11;11;11;11;1x1", 16);
+        linesAt(Check.object(Check.RIVER, "", ""), true, "11;11;11;11;11;11;", 17);
+        linesAt(Check.object(Check.RIVER, "", ""), true, "11;11;11;11;11;11;11", 17);
+        linesAt(Check.object(Check.RIVER, "", ""), true, "11;11;11;11;11;111", 17);
+        linesAt(Check.object(Check.RIVER, "", ""), true, "11;11;11;11;11;1x1", 16);
         Check.due("bridges: 17 signs", Check.bridges(y, "11;12;13;14;15;16"), 6);
         Check.due("bridges: the sixth", y.bridge(5, 1), 6);
     }
 
     private static void people() {
         BridgesAreLent x = new BridgesAreLent();
-        linesAt(x, false, "a1", 0);
+        linesAt(new BridgesAreLent(), false, "a1", 0);
         Check.due("people: none without a river", Check.people(x, ""), 0);
         Check.river(x, Check.RIVER);
         Check.due("people", Check.people(x, "d9;a1"), 2);
@@ -195,16 +194,16 @@ public final class TextsTest {
         Check.due("people: in all", x.count(3), 3);
         Check.due("people: the first", x.person(0, 0) * 10 + x.person(0, 1), 39);
         Check.due("people: the third", x.person(2, 0) * 10 + x.person(2, 1), 15);
-        linesAt(x, false, "e1", 0);
-        linesAt(x, false, "`1", 0);
-        linesAt(x, false, "A1", 0);
-        linesAt(x, false, "a", 1);
-        linesAt(x, false, "a0", 1);
-        linesAt(x, false, "a12", 2);
-        linesAt(x, false, "a1;", 3);
-        linesAt(x, false, "a1;e1", 3);
-        linesAt(x, false, "a1;a1;a1;a1", 9);
-        linesAt(x, false, "a1;a1;a1;", 9);
+        linesAt(Check.object(Check.RIVER, "", "d9;a1;b5"), false, "e1", 0);
+        linesAt(Check.object(Check.RIVER, "", "d9;a1;b5"), false, "`1", 0);
+        linesAt(Check.object(Check.RIVER, "", "d9;a1;b5"), false, "A1", 0);
+        linesAt(Check.object(Check.RIVER, "", "d9;a1;b5"), false, "a", 1);
+        linesAt(Check.object(Check.RIVER, "", "d9;a1;b5"), false, "a0", 1);
+        linesAt(Check.object(Check.RIVER, "", "d9;a1;b5"), false, "a12", 2);
+        linesAt(Check.object(Check.RIVER, "", "d9;a1;b5"), false, "a1;", 3);
+        linesAt(Check.object(Check.RIVER, "", "d9;a1;b5"), false, "a1;e1", 3);
+        linesAt(Check.object(Check.RIVER, "", "d9;a1;b5"), false, "a1;a1;a1;a1", 9);
+        linesAt(Check.object(Check.RIVER, "", "d9;a1;b5"), false, "a1;a1;a1;", 9);
         Check.due("people: the last three", Check.people(x, "a1;b2;c3"), 3);
         linesAt(x, false, "a1", 0);
         Check.due("people: nothing still comes", Check.people(x, ""), 0);

@@ -23,10 +23,12 @@ public final class WaysTest {
         Check.due("route: it is there", x, x.route(2, 3), 0);
         Check.due("route: from d", x, x.route(2, 1), 2, 2, 1);
         x.route(0, 3);
-        Check.refused("route: bank 5", x, () -> x.route(0, 5), NONE);
-        Check.refused("route: bank -1", x, () -> x.route(0, -1), NONE);
-        Check.refused("route: person 3", x, () -> x.route(3, 0), NONE);
-        Check.refused("route: person -1", x, () -> x.route(-1, 0), NONE);
+        BridgesAreLent w = Check.laid(river, "19;19", "a3;a6;d4", 1, 2);
+        w.joined(0);
+        Check.refused("route: bank 5", w, () -> w.route(0, 5), NONE);
+        Check.refused("route: bank -1", w, () -> w.route(0, -1), NONE);
+        Check.refused("route: person 3", w, () -> w.route(3, 0), NONE);
+        Check.refused("route: person -1", w, () -> w.route(-1, 0), NONE);
         x.tow(2, NONE);
         x.tow(1, NONE);
         x.route(0, 1);
